@@ -128,7 +128,7 @@ public final class Threetwo {
 
     public int ofField(int field, int what) throws IndexOutOfBoundsException, IllegalArgumentException {
         requireField(field);
-        findPath();
+        rhythm.find(strip.looks, changeNow);
         switch (what) {
             case 0: return strip.looks.at(field);
             case 1: return rhythm.places[field];
@@ -139,7 +139,7 @@ public final class Threetwo {
     }
 
     public int found(int frame, int what) throws IndexOutOfBoundsException, IllegalArgumentException {
-        findPath();
+        rhythm.find(strip.looks, changeNow);
         if (frame < 0 || frame >= rhythm.frames) {
             throw new IndexOutOfBoundsException("no such FOUND FRAME");
         }
@@ -177,8 +177,12 @@ public final class Threetwo {
             case 1: return strip.looks.many();
             case 2: return strip.notes;
             case 3: return changeNow;
-            case 4: findPath(); return rhythm.cost;
-            case 5: findPath(); return rhythm.frames;
+            case 4:
+                rhythm.find(strip.looks, changeNow);
+                return rhythm.cost;
+            case 5:
+                rhythm.find(strip.looks, changeNow);
+                return rhythm.frames;
             case 6: return prints.many;
             case 7: return buffer.rateNow;
             case 8: return buffer.sizes.many();
@@ -252,12 +256,6 @@ public final class Threetwo {
         }
     }
 
-    private void findPath() {
-        if (!rhythm.known) {
-            rhythm.find(strip.looks, changeNow);
-        }
-    }
-
     private static String textOf(char[] signs, int many) {
         StringBuilder text = new StringBuilder();
         for (int k = 0; k < many && k < signs.length; k++) {
@@ -300,7 +298,7 @@ public final class Threetwo {
     }
 
     private boolean framesAreSound() {
-        findPath();
+        rhythm.find(strip.looks, changeNow);
         int covered = 0;
         for (int frame = 0; frame < rhythm.frames; frame++) {
             if (rhythm.firsts[frame] != covered) {
@@ -366,7 +364,7 @@ public final class Threetwo {
         }
 
         int at(int nth) {
-            return has(nth) ? items[nth] : NONE;
+            return nth >= 0 && nth < told ? items[nth] : NONE;
         }
 
         int add(int item) {
@@ -530,6 +528,9 @@ public final class Threetwo {
         }
 
         void find(Row looks, int change) {
+            if (known) {
+                return;
+            }
             cost = leastCost(looks, change);
             tracePath(looks, change);
             gatherFrames(looks.many());
@@ -594,28 +595,25 @@ public final class Threetwo {
         }
 
         private static int step(int place, int next, boolean alike, int change) {
-            if (!follows(place, next)) {
+            if (next != (place + 1) % BEAT) {
                 return change;
             }
-            if (beginsFrame(next)) {
+            if (next == 0 || next == 2) {
                 return alike ? 1 : 0;
             }
             return alike ? 0 : 3;
         }
 
-        private static boolean follows(int place, int next) {
-            return next == (place + 1) % BEAT;
-        }
-
-        private static boolean beginsFrame(int place) {
-            return place == 0 || place == 2;
+        private boolean beginsFrame(int field) {
+            int place = places[field];
+            return field == 0 || place == 0 || place == 2 || place != (places[field - 1] + 1) % BEAT;
         }
 
         private void gatherFrames(int many) {
             frames = 0;
             int start = 0;
             for (int field = 0; field < many; field++) {
-                if (field == 0 || beginsFrame(places[field]) || !follows(places[field - 1], places[field])) {
+                if (beginsFrame(field)) {
                     start = field;
                     firsts[frames] = start;
                     frames++;
@@ -727,20 +725,20 @@ public final class Threetwo {
             }
             int at = i * WIDTH + j;
             int alone = ALONE + Math.min(behind[at + WIDTH], behind[at + 1]);
-            return Math.min(together(first, second, i, j) + behind[at + WIDTH + 1], alone);
+            return Math.min(together(first.at(i), second.at(j)) + behind[at + WIDTH + 1], alone);
         }
 
         private char signAt(Row first, Row second, int i, int j) {
             int at = i * WIDTH + j;
             if (first.has(i) && second.has(j)
-                    && behind[at] == together(first, second, i, j) + behind[at + WIDTH + 1]) {
+                    && behind[at] == together(first.at(i), second.at(j)) + behind[at + WIDTH + 1]) {
                 return first.at(i) == second.at(j) ? '=' : '~';
             }
             return first.has(i) && behind[at] == ALONE + behind[at + WIDTH] ? '1' : '2';
         }
 
-        private static int together(Row first, Row second, int i, int j) {
-            return Math.min(Math.abs(first.at(i) - second.at(j)), MOST_TOGETHER);
+        private static int together(int look, int other) {
+            return Math.min(Math.abs(look - other), MOST_TOGETHER);
         }
     }
 

@@ -119,6 +119,13 @@ final class FaceTest {
         for (int run = 0; run < 60; run++) {
             Threetwo house = new Threetwo();
             boolean deep = run % 2 == 0;
+            for (int nth = 0; run == 0 && nth < 24; nth++) {
+                callOnce(house, "frame", random, odd, 4);
+                callOnce(house, "pull", random, odd, 2);
+            }
+            for (int nth = 0; run == 0 && nth < 1000; nth++) {
+                callOnce(house, "spoil", random, odd, 20);
+            }
             for (int call = 0; call < 1500; call++) {
                 String told = FACE.get(random.nextInt(FACE.size()));
                 String name = told.substring(told.indexOf(' ') + 1, told.indexOf('('));

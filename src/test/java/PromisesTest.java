@@ -439,6 +439,13 @@ final class PromisesTest {
                 ofFields(change(strip(1, 1, 2, 3, 3), 1), 2));
         x.spoil(9, 3);
         C.due("NOTED", "0000000001", ofFields(x, 3));
+        Threetwo shorter = pulled(1, 5, 7, 5, 9);
+        shorter.cut(3, 1);
+        C.due("a long path", "234023401", path(change(shorter, 1)));
+        shorter.cut(2, 7);
+        C.due("of two alike ones left by it", "01", path(shorter));
+        shorter.cut(0, 1);
+        C.due("of the one left by it", "0", path(shorter));
         C.dueIndex("ofField(10, 0)", () -> x.ofField(10, 0));
         C.dueIndex("ofField(-1, 0)", () -> x.ofField(-1, 0));
         C.dueIndex("ofField(10, 4)", () -> x.ofField(10, 4));
@@ -479,9 +486,24 @@ final class PromisesTest {
         C.due("of three unlike ones the smallest", "5@0x3", framesOf(x).substring(0, 5));
         x.spoil(1, 8);
         C.due("two of three, the first two", 8, x.found(0, 0));
+        x.spoil(0, 5);
+        x.spoil(1, 9);
+        x.spoil(2, 8);
+        C.due("of three unlike ones the smallest, told first", "5@0x3", framesOf(x).substring(0, 5));
+        Threetwo two = pulled(0, 5, 8, 8, 9);
+        two.spoil(1, 8);
+        C.due("the next FRAME has no say", "5@0x2 8@2x3 ", framesOf(change(two, 20)).substring(0, 12));
         Threetwo changed = change(pulled(0, 1, 2, 3), 1);
         changed.cut(1, 1);
         C.due("a FRAME of one FIELD", "1@0x1 2@1x3 3@4x2 ", framesOf(changed));
+        Threetwo single = pulled(0, new int[24]);
+        for (int field = 0; field < 60; field++) {
+            single.spoil(field, field);
+        }
+        single.change(1);
+        C.due("60 FOUND FRAMES", 60, single.house(5));
+        C.due("the last one", 59, single.found(59, 0));
+        C.dueIndex("found(60, 0)", () -> single.found(60, 0));
         C.dueIndex("found(4, 0)", () -> x.found(x.house(5), 0));
         C.dueIndex("found(-1, 0)", () -> x.found(-1, 0));
         C.dueIndex("found(-1, 3)", () -> x.found(-1, 3));
@@ -549,6 +571,10 @@ final class PromisesTest {
         java.util.Arrays.fill(high, 99);
         C.due("ten with ten", "~~~~~~~~~~", printed(low, high).laying(0, 1));
         C.due("apart beside it", 40, printed(low, high).apart(0, 1));
+        low[9] = 50;
+        high[0] = 50;
+        C.due("the longest one", "111111111=222222222", printed(low, high).laying(0, 1));
+        C.due("apart beside that", 36, printed(low, high).apart(0, 1));
         C.dueIndex("laying(3, 0)", () -> x.laying(3, 0));
         C.dueIndex("laying(0, 3)", () -> x.laying(0, 3));
         C.dueIndex("laying(-1, 0)", () -> x.laying(-1, 0));
@@ -573,6 +599,7 @@ final class PromisesTest {
         C.due("no more comes than all SIZES together", 45, sent(50, 10, 30, 5).house(10));
         C.due("empty pictures need no DELAY", 0, sent(1, 0, 0, 0).house(9));
         C.due("and have no PEAK", 0, sent(50, 0, 0, 0).house(10));
+        C.due("PEAK at the last tick", 25, sent(10, 0, 0, 25).house(10));
         int[] most = new int[20];
         java.util.Arrays.fill(most, 99);
         C.due("the longest DELAY", 1960, sent(1, most).house(9));
@@ -672,6 +699,7 @@ final class PromisesTest {
         C.due("full", true, full().isSound());
         Threetwo x = printed(looks(1, 5, 9, 12, 13), looks(1, 9, 12), looks(40, 41, 1, 5, 8, 12, 12, 12, 12, 12));
         C.due("three PRINTS", true, x.isSound());
+        C.due("one just between two", true, printed(looks(), looks(1), looks(1, 1)).isSound());
         for (int rate = 1; rate <= 50; rate++) {
             Threetwo sent = sent(rate, 99, 0, 3, 50, 0, 0, 7, 99);
             C.due("sound by " + rate, true, sent.isSound());
@@ -702,6 +730,10 @@ final class PromisesTest {
         C.due("of 60 FIELDS", digestByCalls(most), most.digest());
         Threetwo sent = sent(5, 40);
         C.due("DRY by 3", digestByCalls(sent), sent.digest());
+        Threetwo nearly = sent(10, 40);
+        C.due("DRY by 2 and not by 3", digestByCalls(nearly), nearly.digest());
+        Threetwo just = sent(10, 50);
+        C.due("DRY by 3 and not by 4", digestByCalls(just), just.digest());
     }
 
     private static long digestByCalls(Threetwo x) {
