@@ -28,6 +28,17 @@ final class Checks {
         due(name, want.getName(), got);
     }
 
+    /** No exception of any kind. */
+    void dueAnswer(String name, Call call) {
+        String got = "an answer";
+        try {
+            call.run();
+        } catch (RuntimeException e) {
+            got = e.getClass().getName();
+        }
+        due(name, "an answer", got);
+    }
+
     void dueIndex(String name, Call call) {
         dueThrow(name, IndexOutOfBoundsException.class, call);
     }

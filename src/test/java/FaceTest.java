@@ -43,6 +43,7 @@ final class FaceTest {
     public static void main(String[] args) throws Exception {
         face();
         names();
+        shapes();
         source();
         machineNeverThrows();
         CHECKS.end();
@@ -99,6 +100,28 @@ final class FaceTest {
             for (Field field : one.getDeclaredFields()) {
                 boolean fixed = Modifier.isFinal(field.getModifiers()) || !Modifier.isStatic(field.getModifiers());
                 CHECKS.due(field + " is no static that changes", true, fixed);
+            }
+        }
+    }
+
+    /** Rules 1, 2 and 11: what the classes inside are, and how large all of it may be. */
+    private static void shapes() {
+        Class<?>[] inside = Threetwo.class.getDeclaredClasses();
+        CHECKS.due("at most twelve classes", true, inside.length < 12);
+        List<Class<?>> all = new ArrayList<>(Arrays.asList(inside));
+        for (Class<?> one : inside) {
+            int modifiers = one.getModifiers();
+            boolean open = Modifier.isPublic(modifiers) || Modifier.isProtected(modifiers);
+            CHECKS.due(one + " is not open", false, open);
+            CHECKS.due(one + " is static", true, Modifier.isStatic(modifiers));
+        }
+        all.add(Threetwo.class);
+        for (Class<?> one : all) {
+            long fields = Arrays.stream(one.getDeclaredFields())
+                    .filter(field -> !Modifier.isStatic(field.getModifiers())).count();
+            CHECKS.due(one + " has at most twenty fields", true, fields <= 20);
+            for (Method method : one.getDeclaredMethods()) {
+                CHECKS.due(method + " takes at most seven values", true, method.getParameterCount() <= 7);
             }
         }
     }

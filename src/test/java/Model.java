@@ -1,6 +1,5 @@
 import java.util.ArrayList;
 import java.util.HashMap;
-import java.util.HashSet;
 import java.util.List;
 import java.util.Map;
 import java.util.Set;
@@ -425,20 +424,5 @@ final class Model {
             delay++;
         }
         return delay;
-    }
-
-    /** Every way to give places to so many FIELDS. */
-    static Set<String> allPaths(int fields) {
-        Set<String> paths = new HashSet<>(Set.of(""));
-        for (int field = 0; field < fields; field++) {
-            Set<String> longer = new HashSet<>();
-            for (String path : paths) {
-                for (int place = 0; place < 5; place++) {
-                    longer.add(path + place);
-                }
-            }
-            paths = longer;
-        }
-        return paths;
     }
 }

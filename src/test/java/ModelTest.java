@@ -22,8 +22,6 @@ final class ModelTest {
         for (int run = 0; run < 1500; run++) {
             test.run(run);
         }
-        test.shortStrips();
-        test.everyLabel();
         test.checks.end();
     }
 
@@ -109,62 +107,6 @@ final class ModelTest {
             return "" + method.invoke(of, values);
         } catch (InvocationTargetException e) {
             return e.getCause().getClass().getName();
-        }
-    }
-
-    /** Strips that are short enough to look at every PATH there is. */
-    private void shortStrips() {
-        for (int fields = 1; fields <= 5; fields++) {
-            for (int nth = 0; nth < 60; nth++) {
-                shortStrip(fields, 1 + random.nextInt(8));
-            }
-        }
-    }
-
-    private void shortStrip(int fields, int change) {
-        Threetwo house = new Threetwo();
-        for (int k = 0; k < 3; k++) {
-            house.frame(k);
-        }
-        house.pull(0);
-        if (fields < 7) {
-            house.cut(fields, 7 - fields);
-        }
-        List<Integer> strip = new ArrayList<>();
-        for (int field = 0; field < fields; field++) {
-            strip.add(random.nextInt(3));
-            house.spoil(field, strip.get(field));
-        }
-        house.change(change);
-        Model.Path best = null;
-        for (String places : Model.allPaths(fields)) {
-            Model.Path path = new Model.Path(Model.costOfPath(strip, places, change), places);
-            best = path.isBetterThan(best) ? path : best;
-        }
-        checks.due("cost of " + strip + " by " + change, best.cost, house.house(4));
-        StringBuilder got = new StringBuilder();
-        for (int field = 0; field < fields; field++) {
-            got.append(house.ofField(field, 1));
-        }
-        checks.due("path of " + strip + " by " + change, best.places, got.toString());
-    }
-
-    private void everyLabel() {
-        Model model = new Model();
-        Threetwo house = new Threetwo();
-        for (int picture = 0; picture < 107892; picture++) {
-            if (picture % 250 == 0) {
-                house = new Threetwo();
-            }
-            int label = model.label(picture);
-            checks.due("label(" + picture + ")", label, house.label(picture));
-            checks.due("picture(" + label + ")", picture, house.picture(label));
-        }
-        for (int label = -200; label < 700000; label++) {
-            if (label % 500 == 0) {
-                house = new Threetwo();
-            }
-            checks.due("picture(" + label + ")", model.picture(label), house.picture(label));
         }
     }
 }

@@ -1,5 +1,5 @@
 /** Promise by promise: ordinary values, the edges that the document names, and wrong values. */
-final class PromisesTest {
+final class PromisesTest extends Houses {
     private static final Checks C = new Checks();
     private static final int MIN = Integer.MIN_VALUE;
     private static final int MAX = Integer.MAX_VALUE;
@@ -37,124 +37,11 @@ final class PromisesTest {
         void of(Threetwo house);
     }
 
-    /** Some of everything: FRAMES not yet PULLED DOWN, notes, PRINTS, SIZES. */
-    private static Threetwo full() {
-        Threetwo x = new Threetwo();
-        for (int look : new int[] {5, 7, 5, 9}) {
-            x.frame(look);
-        }
-        x.pull(0);
-        x.frame(11);
-        x.spoil(2, 8);
-        x.spoil(2, 7);
-        x.spoil(9, 1);
-        x.change(4);
-        x.print();
-        x.print();
-        for (int look : new int[] {1, 5, 9}) {
-            x.look(0, look);
-        }
-        x.look(1, 2);
-        x.rate(7);
-        x.size(20);
-        x.size(3);
-        x.knock();
-        return x;
-    }
-
-    /** All that can be asked, and what comes to light by healing and pulling down. */
-    private static String portrait(Threetwo x) {
-        StringBuilder text = new StringBuilder();
-        for (int what = 0; what < 12; what++) {
-            text.append(x.house(what)).append(' ');
-        }
-        text.append(x.digest()).append(' ').append(x.fields());
-        int prints = x.house(6);
-        for (int print = 0; print < prints; print++) {
-            for (int nth = 0; nth <= 10; nth++) {
-                text.append(' ').append(x.ofPrint(print, nth));
-            }
-        }
-        int notes = x.house(2);
-        for (int nth = 0; nth <= notes; nth++) {
-            text.append(" heal ").append(x.heal()).append(' ').append(x.digest());
-        }
-        for (int phase = 0; phase < 2; phase++) {
-            x.pull(phase);
-            text.append(" pull ").append(x.digest());
-        }
-        x.cut(0, 1);
-        return text.append(" cut ").append(x.digest()).toString();
-    }
-
     /** What a wrong call must leave as it is. */
     private static void keeps(String name, Use wrong) {
         Threetwo x = full();
         wrong.of(x);
         C.due(name + " changes nothing", portrait(full()), portrait(x));
-    }
-
-    private static Threetwo pulled(int phase, int... looks) {
-        Threetwo x = new Threetwo();
-        for (int look : looks) {
-            x.frame(look);
-        }
-        x.pull(phase);
-        return x;
-    }
-
-    /** FIELDS of just these LOOKS, none NOTED: each of its own FRAME of 2 or 3, of which all but one are cut out. */
-    private static Threetwo strip(int... looks) {
-        Threetwo x = new Threetwo();
-        for (int look : looks) {
-            x.frame(look);
-        }
-        x.pull(0);
-        for (int k = 0; k < looks.length; k++) {
-            x.cut(k + 1, k % 2 == 0 ? 1 : 2);
-        }
-        return x;
-    }
-
-    private static String path(Threetwo x) {
-        StringBuilder text = new StringBuilder();
-        for (int field = 0; field < x.house(1); field++) {
-            text.append(x.ofField(field, 1));
-        }
-        return text.toString();
-    }
-
-    private static String framesOf(Threetwo x) {
-        StringBuilder text = new StringBuilder();
-        for (int frame = 0; frame < x.house(5); frame++) {
-            text.append(x.found(frame, 0)).append('@').append(x.found(frame, 1));
-            text.append('x').append(x.found(frame, 2)).append(' ');
-        }
-        return text.toString();
-    }
-
-    private static Threetwo printed(int[]... prints) {
-        Threetwo x = new Threetwo();
-        for (int[] print : prints) {
-            int number = x.print();
-            for (int look : print) {
-                x.look(number, look);
-            }
-        }
-        return x;
-    }
-
-    private static int[] looks(int... looks) {
-        return looks;
-    }
-
-    private static Threetwo sent(int rate, int... sizes) {
-        Threetwo x = new Threetwo();
-        x.rate(rate);
-        for (int size : sizes) {
-            x.size(size);
-        }
-        return x;
     }
 
     private static void promise1New() {
@@ -461,19 +348,6 @@ final class PromisesTest {
         });
     }
 
-    private static Threetwo change(Threetwo x, int change) {
-        x.change(change);
-        return x;
-    }
-
-    private static String ofFields(Threetwo x, int what) {
-        StringBuilder text = new StringBuilder();
-        for (int field = 0; field < x.house(1); field++) {
-            text.append(x.ofField(field, what));
-        }
-        return text.toString();
-    }
-
     private static void promise14Found() {
         Threetwo x = pulled(0, 5, 7, 5, 9);
         C.due("2 3 2 3", "5@0x2 7@2x3 5@5x2 9@7x3 ", framesOf(x));
@@ -734,35 +608,5 @@ final class PromisesTest {
         C.due("DRY by 2 and not by 3", digestByCalls(nearly), nearly.digest());
         Threetwo just = sent(10, 50);
         C.due("DRY by 3 and not by 4", digestByCalls(just), just.digest());
-    }
-
-    private static long digestByCalls(Threetwo x) {
-        long d = 8311;
-        for (int what = 0; what <= 11; what++) {
-            d = d * 31 + x.house(what);
-        }
-        int many = x.house(1);
-        for (int field = 0; field < many; field++) {
-            for (int what = 0; what <= 3; what++) {
-                d = d * 31 + x.ofField(field, what);
-            }
-        }
-        int frames = x.house(5);
-        for (int frame = 0; frame < frames; frame++) {
-            for (int what = 0; what <= 2; what++) {
-                d = d * 31 + x.found(frame, what);
-            }
-        }
-        int prints = x.house(6);
-        for (int one = 0; one < prints; one++) {
-            for (int other = 0; other < prints; other++) {
-                d = d * 31 + x.apart(one, other);
-                d = d * 31 + x.laying(one, other).length();
-            }
-        }
-        d = d * 31 + x.label(1800 + 977 * many);
-        d = d * 31 + x.dry(3);
-        d = d * 31 + x.fields().length();
-        return d * 31 + (x.isSound() ? 1 : 0);
     }
 }
